@@ -584,7 +584,9 @@ public final class Pegfield {
         if (bits == 0) {
             return 0.0;
         }
-        return (double) unitsOf(bits) / (double) (1L << placesAfterPoint(bits));
+        // Both are exact, as the units are below 2^53 and their number in a whole is a power of two.
+        double unitsInOne = (double) (1L << placesAfterPoint(bits));
+        return unitsInOne >= 1.0 ? (double) unitsOf(bits) / unitsInOne : 0.0;
     }
 
     /**
