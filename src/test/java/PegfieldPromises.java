@@ -33,15 +33,6 @@ public final class PegfieldPromises {
         Check.end("PegfieldPromises");
     }
 
-    /** Pegs 0 at 0/0, 1 at 12/16, 2 at 90/90; none else. */
-    private static Pegfield three() {
-        Pegfield x = new Pegfield();
-        x.put(0, 0, 0);
-        x.put(1, 12, 16);
-        x.put(2, 90, 90);
-        return x;
-    }
-
     /** A call that is due to throw, and to change nothing. */
     private static void refused(Pegfield x, String what, String exception, Check.Call call) {
         long before = x.checksum();
@@ -94,7 +85,7 @@ public final class PegfieldPromises {
     }
 
     private static void take() {
-        Pegfield x = three();
+        Pegfield x = Fields.three();
         x.take(1);
         Check.same("3 gone", false, x.isThere(1));
         Check.same("3 count", 2, x.count());
@@ -110,7 +101,7 @@ public final class PegfieldPromises {
     }
 
     private static void step() {
-        Pegfield x = three();
+        Pegfield x = Fields.three();
         Check.same("4 n", true, x.step(1, 'n'));
         Check.same("4 n place", 17 * 91 + 12, x.placeOf(1));
         Check.same("4 e", true, x.step(1, 'e'));
@@ -140,7 +131,7 @@ public final class PegfieldPromises {
     }
 
     private static void isThereAndPlaceOfAndCount() {
-        Pegfield x = three();
+        Pegfield x = Fields.three();
         Check.same("5 stands", true, x.isThere(2));
         Check.same("5 does not", false, x.isThere(3));
         Check.same("6 place", 16 * 91 + 12, x.placeOf(1));
@@ -157,7 +148,7 @@ public final class PegfieldPromises {
     }
 
     private static void widen() {
-        Pegfield x = three();
+        Pegfield x = Fields.three();
         Check.same("8 stays", false, x.widen(false));
         Check.same("8 widened", true, x.widen(true));
         Check.same("8 again", false, x.widen(true));
@@ -168,7 +159,7 @@ public final class PegfieldPromises {
     }
 
     private static void stretch() {
-        Pegfield x = three();
+        Pegfield x = Fields.three();
         Check.same("9 five rods", 5 * 65536, x.stretch(0, 1));
         Check.same("9 back", 5 * 65536, x.stretch(1, 0));
         Check.same("9 the longest", 2085343, x.stretch(0, 2));
@@ -204,7 +195,7 @@ public final class PegfieldPromises {
     }
 
     private static void isSteadyAndDoubledAndClose() {
-        Pegfield x = three();
+        Pegfield x = Fields.three();
         for (int wide = 0; wide < 2; wide++) {
             for (int from = 0; from < 3; from++) {
                 for (int to = 0; to < 3; to++) {
@@ -222,7 +213,7 @@ public final class PegfieldPromises {
     }
 
     private static void isStraight() {
-        Pegfield x = three();
+        Pegfield x = Fields.three();
         for (int from = 0; from < 3; from++) {
             for (int by = 0; by < 3; by++) {
                 for (int to = 0; to < 3; to++) {
@@ -239,7 +230,7 @@ public final class PegfieldPromises {
     }
 
     private static void nearest() {
-        Pegfield x = three();
+        Pegfield x = Fields.three();
         Check.same("14 of 2", 1, x.nearest(2));
         Check.same("14 of 1", 0, x.nearest(1));
         Check.same("14 of 0", 1, x.nearest(0));
@@ -262,7 +253,7 @@ public final class PegfieldPromises {
     }
 
     private static void rank() {
-        Pegfield x = three();
+        Pegfield x = Fields.three();
         Check.same("15 the longest", 2, x.rank(0, 2));
         Check.same("15 the middle one", 1, x.rank(1, 2));
         Check.same("15 the shortest", 0, x.rank(0, 1));
@@ -276,7 +267,7 @@ public final class PegfieldPromises {
     }
 
     private static void isIn() {
-        Pegfield x = three();
+        Pegfield x = Fields.three();
         Check.same("16 on the edge", true, x.isIn(1, 0, 25, false));
         Check.same("16 on the edge of a quarter", true, x.isIn(1, 0, 100, true));
         Check.same("16 outside", false, x.isIn(1, 0, 24, false));
@@ -373,7 +364,7 @@ public final class PegfieldPromises {
     }
 
     private static void joinAndUnjoinAndRingAt() {
-        Pegfield x = three();
+        Pegfield x = Fields.three();
         for (int number = 1; number <= 12; number++) {
             int peg = number % 3;
             Check.due("24 join " + number, number, () -> x.join(peg));
@@ -405,7 +396,7 @@ public final class PegfieldPromises {
     }
 
     private static void takeFromRing() {
-        Pegfield x = three();
+        Pegfield x = Fields.three();
         x.join(1);
         x.join(0);
         x.join(1);
@@ -420,7 +411,7 @@ public final class PegfieldPromises {
     }
 
     private static void around() {
-        Pegfield x = three();
+        Pegfield x = Fields.three();
         x.join(0);
         Check.same("27 of one", 0, x.around());
         x.join(1);
@@ -462,26 +453,13 @@ public final class PegfieldPromises {
         Check.same("28 the other way round", -600, x.doubleArea());
     }
 
-    /** A ring whose double area is twice across times up, three times round. */
-    private static Pegfield square(int across, int up, int rounds) {
-        Pegfield x = new Pegfield();
-        x.put(0, 0, 0);
-        x.put(1, across, 0);
-        x.put(2, across, up);
-        x.put(3, 0, up);
-        for (int i = 0; i < 4 * rounds; i++) {
-            x.join(i % 4);
-        }
-        return x;
-    }
-
     private static void sideBits() {
         Check.same("29 empty", 0L, new Pegfield().sideBits());
-        Check.same("29 a square", Double.doubleToRawLongBits(StrictMath.sqrt(200)), square(10, 10, 1).sideBits());
-        Pegfield large = square(90, 90, 2);
+        Check.same("29 a square", Double.doubleToRawLongBits(StrictMath.sqrt(200)), Fields.rounds(10, 10, 1).sideBits());
+        Pegfield large = Fields.rounds(90, 90, 2);
         Check.same("29 double area", 32400, large.doubleArea());
         Check.same("29 large", Double.doubleToRawLongBits(180.0), large.sideBits());
-        Pegfield greater = square(90, 90, 3);
+        Pegfield greater = Fields.rounds(90, 90, 3);
         Check.same("29 three times round", 48600, greater.doubleArea());
         refused(greater, "29 too large", Check.STATE, () -> greater.sideBits());
         for (int area = 32765; area <= 32770; area++) {
@@ -490,15 +468,8 @@ public final class PegfieldPromises {
         }
     }
 
-    /** Twice around the whole field, and a triangle that adds what is left up to the area. */
     private static void sideAtEdge(int area, boolean isBackward) {
-        Pegfield x = square(90, 90, 0);
-        x.put(4, 90, 450 - (area - 32400));
-        x.put(5, 1, 5);
-        int[] ring = {0, 1, 2, 3, 0, 1, 2, 3, 0, 4, 5};
-        for (int i = 0; i < ring.length; i++) {
-            x.join(ring[isBackward ? ring.length - 1 - i : i]);
-        }
+        Pegfield x = Fields.nearGreatest(area, isBackward);
         Check.same("28 area at the edge", isBackward ? -area : area, x.doubleArea());
         Object want = area > 32767 ? Check.STATE : Double.doubleToRawLongBits(StrictMath.sqrt(area));
         Check.due("29 edge " + area, want, () -> x.sideBits());
@@ -527,14 +498,14 @@ public final class PegfieldPromises {
     }
 
     private static Pegfield wideThree() {
-        Pegfield x = three();
+        Pegfield x = Fields.three();
         x.widen(true);
         return x;
     }
 
     private static void isSound() {
         Check.same("31 empty", true, new Pegfield().isSound());
-        Pegfield x = three();
+        Pegfield x = Fields.three();
         Check.same("31 three pegs", true, x.isSound());
         for (int peg = 0; peg < 12; peg++) {
             x.put(peg, 7 * peg + 3, 90 - peg * peg / 2);

@@ -22,7 +22,7 @@ public final class PegfieldTables {
             String what = (isQuarter ? "a quarter of " : "") + number;
             Check.same("17 " + what, want, x.root(number, isQuarter));
             Check.same("18 " + what, Double.doubleToRawLongBits(want), x.rootBits(number, isQuarter));
-            Check.same("19 " + what, grains(isQuarter ? 4L * number : 16L * number), x.rootGrains(number, isQuarter));
+            Check.same("19 " + what, Exact.grains(isQuarter ? 4L * number : 16L * number), x.rootGrains(number, isQuarter));
             Check.same("19 by the double, " + what, (int) (want * 65536 + 0.5), x.rootGrains(number, isQuarter));
             Check.same("21 " + what, true, x.isNearest(number, isQuarter));
             Check.same("23 from 0 to " + what, (int) want, x.between(0, number, isQuarter));
@@ -33,12 +33,6 @@ public final class PegfieldTables {
         }
         Check.same("20 " + number, BigInteger.valueOf(number).sqrt().intValue(), x.wholeRoot(number));
         Check.same("22 " + number, true, x.isHalved(number));
-    }
-
-    /** The nearest whole number of grains of the root of some sixteenths. */
-    private static int grains(long sixteenths) {
-        BigInteger halves = BigInteger.valueOf(sixteenths).shiftLeft(30).sqrt();
-        return halves.add(BigInteger.ONE).shiftRight(1).intValue();
     }
 
     private static void legs(int legAcross, int legUp) {
@@ -53,7 +47,7 @@ public final class PegfieldTables {
             double rods = wide == 1 ? 0.5 : 0.25;
             int want = (int) (StrictMath.hypot(legAcross * rods, legUp * rods) * 65536 + 0.5);
             long sixteenths = (long) (wide == 1 ? 4 : 1) * (legAcross * legAcross + legUp * legUp);
-            Check.same("9 exact " + what, grains(sixteenths), x.stretch(0, 1));
+            Check.same("9 exact " + what, Exact.grains(sixteenths), x.stretch(0, 1));
             Check.same("9 back " + what, want, x.stretch(1, 0));
             Check.same("9 aslant " + what, want, x.stretch(2, 3));
             for (int from = 0; from < 4; from++) {
