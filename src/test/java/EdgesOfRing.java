@@ -167,6 +167,14 @@ final class EdgesOfRing {
             }
             Edge.due(12 * 4170686, x::around);
         });
+        Edge.test(27, words, "as the last ones are taken off", () -> {
+            Pegfield x = Fields.rounds(3, 4, 1);
+            int[] due = {14, 12, 6, 0, 0};
+            for (int off = 0; off <= 4; off++) {
+                Edge.due(16384 * due[off], x::around);
+                Check.answer(x::unjoin);
+            }
+        });
         Edge.test(27, words, "a full ring", () -> {
             Pegfield x = Fields.full();
             int sum = 0;
@@ -196,6 +204,20 @@ final class EdgesOfRing {
             }
             return x;
         }, x -> x.doubleArea());
+        Edge.test(28, words, "as the last ones are taken off", () -> {
+            Pegfield x = new Pegfield();
+            int[][] places = {{10, 10}, {30, 10}, {20, 40}, {5, 30}};
+            for (int peg = 0; peg < 4; peg++) {
+                x.put(peg, places[peg][0], places[peg][1]);
+                x.join(peg);
+            }
+            int[] due = {950, 600, 0, 0, 0};
+            for (int off = 0; off <= 4; off++) {
+                Edge.due(due[off], x::doubleArea);
+                Edge.due(bits(due[off]), x::sideBits);
+                Check.answer(x::unjoin);
+            }
+        });
         Edge.answers(28, "whether the field is widened plays no part", "three times round", 48600, () -> {
             Pegfield x = Fields.rounds(90, 90, 3);
             x.widen(true);
